@@ -608,7 +608,7 @@ public final class TextKeeper {
         private boolean obeyCommand() {
             int head = readNumber();
             int n = head / 2;
-            if (head == NONE || n == 0 || !text.hasRoom(n)) {
+            if (head < 0 || n == 0 || !text.hasRoom(n)) {
                 return false;
             }
             return head % 2 == 0 ? insert(n) : copy(n);
@@ -627,7 +627,7 @@ public final class TextKeeper {
 
         private boolean copy(int n) {
             int place = readNumber();
-            if (place == NONE || n > base.length - place) {
+            if (place < 0 || n > base.length - place) {
                 return false;
             }
             for (int i = 0; i < n; i++) {

@@ -421,6 +421,17 @@ public final class PromiseTest {
         setPiece(0, 0xfe, 0xff, 0x7f, 0);
         ask(BAD, Calls.FETCH, 0, 0);
 
+        beginWithDocument("made again: numbers of four bytes");
+        commitText(0, "abcd");
+        setPiece(0, 0x82, 0x80, 0x00, 2, 'x');
+        ask(BAD, Calls.FETCH, 0, 0);
+        setPiece(0, 0x82, 0x80, 0x80, 0x00, 'x');
+        ask(BAD, Calls.FETCH, 0, 0);
+        setPiece(0, 0x82, 0x80, 0x82, 0x02, 'x');
+        ask(BAD, Calls.FETCH, 0, 0);
+        setPiece(0, 0x84, 0x80, 0x00, 'x', 'y');
+        textIs(0, 0, "xy");
+
         beginWithDocument("made again: the base");
         commitText(0, "abcdef");
         commitText(1, "cdef");
@@ -794,6 +805,13 @@ public final class PromiseTest {
         ask(DOWN, Calls.DROP, 3);
         ask(true, Calls.START);
         ask(0, Calls.ABOUT, 3, 0);
+        ask(true, Calls.CUT, 4);
+        ask(0, Calls.COMMIT, 3, 1);
+        ask(1, Calls.COMMIT, 3, 1);
+        ask(true, Calls.TRIM, 3, 1);
+        ask(true, Calls.TRIM, 3, 1);
+        ask(false, Calls.TRIM, 3, 0);
+        ask(DOWN, Calls.TRIM, 3, 1);
         for (int writes = 0; writes < 10; writes++) {
             beginWithDocument("18 cutAfter(" + writes + ") in a commit of ten writes");
             fill(rising(0, 256));
@@ -872,5 +890,9 @@ public final class PromiseTest {
             ask(d, Calls.MAKE);
         }
         ask(0, Calls.COMMIT, 7, 1);
+        ask(NONE, Calls.MAKE);
+        ask(true, Calls.CUT, 0);
+        ask(DOWN, Calls.DROP, 7);
+        ask(DOWN, Calls.MAKE);
     }
 }
