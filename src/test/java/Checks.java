@@ -11,6 +11,10 @@ final class Checks {
         }
     }
 
+    int asked() {
+        return asked;
+    }
+
     void finish(String test) {
         System.out.println(test + ": " + asked + " answers, " + wrong + " not as due");
         if (wrong != 0) {

@@ -1,26 +1,17 @@
 /** The promises of the document one by one: ordinary calls, the edges it names, wrong inputs. */
-public final class PromiseTest {
-    private static final String DOWN = "throws.IllegalStateException";
-    private static final String NO_SUCH = "throws.NoSuchElementException";
-    private static final String ARGUMENT = "throws.IllegalArgumentException";
-    private static final int NONE = -1;
-    private static final int BAD = -2;
-    private static final int LOWEST = Integer.MIN_VALUE;
-    private static final int HIGHEST = Integer.MAX_VALUE;
-
-    private final Checks checks = new Checks();
-    private String promise = "";
-    private TextKeeper x;
+public final class PromiseTest extends Asking {
+    private PromiseTest(Checks checks) {
+        super(checks);
+    }
 
     public static void main(String[] args) {
-        PromiseTest test = new PromiseTest();
+        PromiseTest test = new PromiseTest(new Checks());
         test.newObject();
         test.feed();
         test.end();
         test.make();
         test.commit();
         test.commitRefused();
-        test.commitWithoutBlocks();
         test.pieces();
         test.piecesWithLongNumbers();
         test.pieceOrWhole();
@@ -29,7 +20,6 @@ public final class PromiseTest {
         test.atMost256Bytes();
         test.outAndSteps();
         test.trim();
-        test.trimOfAll64();
         test.dropDocument();
         test.about();
         test.revision();
@@ -42,77 +32,6 @@ public final class PromiseTest {
         test.downRefusesAll();
         test.startAndIsDown();
         test.checks.finish("PromiseTest");
-    }
-
-    private void begin(String name) {
-        promise = name;
-        x = new TextKeeper();
-    }
-
-    private void beginWithDocument(String name) {
-        begin(name);
-        ask(0, Calls.MAKE);
-    }
-
-    private void ask(Object want, int call, int... a) {
-        checks.due(promise + ": " + Calls.told(call, a), Calls.answer(x, call, a), want);
-    }
-
-    /** Fills the buffer with a text; where twenty bytes have no room, they come from further ahead. */
-    private void fill(String text) {
-        ask(true, Calls.END, 0);
-        for (int from = 0; from < text.length(); from += 20) {
-            if (from + 20 > 256) {
-                from = 236;
-                ask(true, Calls.END, from);
-            }
-            int[] words = new int[5];
-            for (int i = 0; i < 20; i++) {
-                int value = from + i < text.length() ? text.charAt(from + i) : 0;
-                words[i / 4] = words[i / 4] << 8 | value;
-            }
-            ask(true, Calls.FEED, words);
-        }
-        ask(true, Calls.END, text.length());
-    }
-
-    private void commitText(int number, String text) {
-        fill(text);
-        ask(number, Calls.COMMIT, 0, 100 + number);
-    }
-
-    private void textIs(int document, int revision, String text) {
-        ask(text.length(), Calls.FETCH, document, revision);
-        for (int i = 0; i < text.length(); i++) {
-            ask((int) text.charAt(i), Calls.OUT, i);
-        }
-        ask(NONE, Calls.OUT, text.length());
-    }
-
-    private void pieceIs(int revision, int... bytes) {
-        ask(bytes.length, Calls.REVISION, 0, revision, 0);
-        for (int i = 0; i < bytes.length; i++) {
-            ask(bytes[i], Calls.PIECE_BYTE, 0, revision, i);
-        }
-        ask(NONE, Calls.PIECE_BYTE, 0, revision, bytes.length);
-    }
-
-    private void setPiece(int revision, int... bytes) {
-        for (int i = 0; i < bytes.length; i++) {
-            ask(true, Calls.DAMAGE, 0, revision, i, x.pieceByte(0, revision, i) ^ bytes[i]);
-        }
-    }
-
-    private static String run(int value, int n) {
-        return String.valueOf((char) value).repeat(n);
-    }
-
-    private static String rising(int from, int n) {
-        StringBuilder text = new StringBuilder();
-        for (int i = 0; i < n; i++) {
-            text.append((char) (from + i));
-        }
-        return text.toString();
     }
 
     private void newObject() {
@@ -130,8 +49,8 @@ public final class PromiseTest {
         ask(false, Calls.END, 1);
         ask(true, Calls.END, 0);
         ask(0, Calls.MAKE);
-        checks.due("NONE", TextKeeper.NONE, -1);
-        checks.due("BAD", TextKeeper.BAD, -2);
+        due("NONE", TextKeeper.NONE, -1);
+        due("BAD", TextKeeper.BAD, -2);
     }
 
     private void feed() {
@@ -253,37 +172,9 @@ public final class PromiseTest {
         fill("home text");
         ask(1, Calls.COMMIT, 0, 1);
         // The base is what is made again now, not what was committed.
-        promise = "5 commit on a changed base";
+        nameIs("5 commit on a changed base");
         pieceIs(1, 2 * 9 + 1, 0);
         ask(0, Calls.VERIFY, 0);
-    }
-
-    /** The 512 calls of an object can't fill the blocks, so this one run goes further. */
-    private void commitWithoutBlocks() {
-        beginWithDocument("5 commit without blocks");
-        ask(1, Calls.MAKE);
-        int seed = 1;
-        for (int r = 0; r < 64; r++) {
-            StringBuilder text = new StringBuilder();
-            for (int i = 0; i < (r < 63 ? 240 : 220); i++) {
-                seed = seed * 1103515245 + 12345;
-                text.append((char) (seed >>> 16 & 255));
-            }
-            commitText(r, text.toString());
-        }
-        ask(1, Calls.FREE);
-        fill(run('a', 32));
-        ask(NONE, Calls.COMMIT, 1, 0);
-        ask(true, Calls.END, 31);
-        ask(0, Calls.COMMIT, 1, 0);
-        ask(0, Calls.FREE);
-        ask(1, Calls.COMMIT, 1, 0);
-        fill("a");
-        ask(NONE, Calls.COMMIT, 1, 0);
-        ask(true, Calls.END, 1);
-        ask(true, Calls.DROP, 0);
-        ask(511, Calls.FREE);
-        ask(2, Calls.COMMIT, 1, 0);
     }
 
     private void pieces() {
@@ -465,6 +356,9 @@ public final class PromiseTest {
         textIs(0, 1, rising(0, 200) + rising(0, 56));
         setPiece(1, 0x91, 3, 0, 2 * 57 + 1, 0);
         ask(BAD, Calls.FETCH, 0, 1);
+        beginWithDocument("made again: 256 bytes, the last by INSERT");
+        commitText(0, rising(0, 200));
+        ask(1, Calls.COMMIT, 0, 1);
         commitText(2, rising(1, 199) + run(201, 57));
         pieceIs(2, pieceOfCopyAndInsert());
         setPiece(2, 0x91, 3, 0);
@@ -554,33 +448,6 @@ public final class PromiseTest {
         commitText(9, "jjjj");
         textIs(0, 8, "iiii");
         textIs(0, 9, "jjjj");
-    }
-
-    private void trimOfAll64() {
-        for (int first = 0; first < 64; first++) {
-            beginWithDocument("9 trim of 64");
-            for (int r = 0; r < 64; r++) {
-                ask(true, Calls.FEED, r, r, r, r, r);
-                ask(r, Calls.COMMIT, 0, r);
-            }
-            ask(true, Calls.TRIM, 0, first);
-            for (int r = 0; r < 64; r++) {
-                ask(r >= first ? 20 : NONE, Calls.FETCH, 0, r);
-                ask(isNeeded(r, first) ? 21 : NO_SUCH, Calls.REVISION, 0, r, 0);
-            }
-        }
-    }
-
-    private static boolean isNeeded(int r, int first) {
-        for (int from = first; from < 64; from++) {
-            for (int k = from; k > r; ) {
-                k -= Integer.lowestOneBit(k);
-                if (k == r) {
-                    return true;
-                }
-            }
-        }
-        return r >= first;
     }
 
     private void dropDocument() {
