@@ -159,6 +159,16 @@ final class AboutSentences extends Asking {
     }
 
     @Sentence("NoSuchElementException if there is none such")
+    void promise12_noRevision64Of64() {
+        beginWithRevisionsOf20Bytes(64);
+        ask(63, Calls.REVISION, 0, 63, 1);
+        for (int what = 0; what < 4; what++) {
+            ask(NO_SUCH, Calls.REVISION, 0, 64, what);
+            ask(NO_SUCH, Calls.REVISION, 0, 65, what);
+        }
+    }
+
+    @Sentence("NoSuchElementException if there is none such")
     void promise12_noSuchDocument() {
         beginWithTexts("a", "b");
         for (int d : NO_DOCUMENTS) {
@@ -231,6 +241,14 @@ final class AboutSentences extends Asking {
         ask(true, Calls.DROP, 0);
         ask(NONE, Calls.PIECE_BYTE, 0, 0, 0);
         ask(NONE, Calls.PIECE_BYTE, 0, 3, 0);
+    }
+
+    @Sentence("NONE if no such piece is kept")
+    void promise13_noRevision64Of64() {
+        beginWithRevisionsOf20Bytes(64);
+        ask(63, Calls.PIECE_BYTE, 0, 63, 20);
+        ask(NONE, Calls.PIECE_BYTE, 0, 64, 0);
+        ask(NONE, Calls.PIECE_BYTE, 0, 65, 0);
     }
 
     @Sentence("or it has none such.")

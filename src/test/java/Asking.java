@@ -116,6 +116,15 @@ class Asking {
         }
     }
 
+    /** A new object whose document 0 has so many revisions, each of its number five times. */
+    void beginWithRevisionsOf20Bytes(int n) {
+        beginWithDocument();
+        for (int r = 0; r < n; r++) {
+            ask(true, Calls.FEED, r, r, r, r, r);
+            ask(r, Calls.COMMIT, 0, r);
+        }
+    }
+
     void textIs(int document, int revision, String text) {
         ask(text.length(), Calls.FETCH, document, revision);
         fetchedIs(text);
@@ -200,12 +209,18 @@ class Asking {
         due("all that can be seen", seen(), before);
     }
 
-    /** Power goes in the write behind so many more: each trim to the first revision is one. */
-    void writesLeftAre(int writes, int document, int first) {
+    /** So many writes, from a revision on: a commit of the empty text is one. */
+    void write(int writes, int document, int revision) {
+        ask(true, Calls.END, 0);
         for (int k = 0; k < writes; k++) {
-            ask(true, Calls.TRIM, document, first);
+            ask(revision + k, Calls.COMMIT, document, 0);
         }
-        ask(DOWN, Calls.TRIM, document, first);
+    }
+
+    /** Power lasts for so many writes and goes in the next one. */
+    void writesLeftAre(int writes, int document, int revision) {
+        write(writes, document, revision);
+        ask(DOWN, Calls.COMMIT, document, 0);
     }
 
     static String run(int value, int n) {

@@ -1,7 +1,27 @@
 /** Counts the answers that are not as due, and ends a test by them. */
 final class Checks {
+    /** Far above what a test takes. */
+    private static final long MOST_MILLISECONDS = 300_000;
+
     private int asked = 0;
     private int wrong = 0;
+
+    /** A call that does not end fails its test by this, and does not hold up the others. */
+    Checks() {
+        Thread guard = new Thread(Checks::endIfLate);
+        guard.setDaemon(true);
+        guard.start();
+    }
+
+    private static void endIfLate() {
+        try {
+            Thread.sleep(MOST_MILLISECONDS);
+        } catch (InterruptedException e) {
+            return;
+        }
+        System.out.println("the test does not end");
+        Runtime.getRuntime().halt(1);
+    }
 
     void due(String call, Object got, Object want) {
         asked++;

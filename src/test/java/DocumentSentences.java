@@ -65,7 +65,6 @@ final class DocumentSentences extends Asking {
         for (int d = 0; d < 8; d++) {
             ask(d, Calls.MAKE);
         }
-        ask(0, Calls.COMMIT, 0, 1);
         ask(true, Calls.CUT, 0);
         ask(NONE, Calls.MAKE);
         ask(false, Calls.IS_DOWN);
@@ -297,7 +296,7 @@ final class DocumentSentences extends Asking {
         ask(true, Calls.END, 63);
         ask(0, Calls.COMMIT, 1, 0);
         ask(0, Calls.FREE);
-        writesLeftAre(0, 1, 0);
+        writesLeftAre(0, 1, 1);
         ask(true, Calls.START);
         ask(1, Calls.COMMIT, 1, 0);
         fill("b");
@@ -336,7 +335,7 @@ final class DocumentSentences extends Asking {
         fill(run('x', 40));
         ask(true, Calls.CUT, 3);
         ask(2, Calls.COMMIT, 0, 1);
-        writesLeftAre(0, 0, 0);
+        writesLeftAre(0, 0, 3);
     }
 
     @Sentence("The first revision of a document that can be asked for is another one, not below it: true")
@@ -398,7 +397,7 @@ final class DocumentSentences extends Asking {
             ask(false, Calls.TRIM, d, 1);
         }
         isAsBefore(before);
-        writesLeftAre(1, 0, 0);
+        writesLeftAre(1, 0, 2);
         ask(true, Calls.START);
         ask(true, Calls.DROP, 0);
         ask(false, Calls.TRIM, 0, 0);
@@ -418,7 +417,17 @@ final class DocumentSentences extends Asking {
         isAsBefore(before);
         bufferHas(6);
         ask(true, Calls.TRIM, 0, 2);
-        ask(DOWN, Calls.TRIM, 0, 2);
+        ask(DOWN, Calls.MAKE);
+    }
+
+    @Sentence("or revision.")
+    void promise09_noRevision64Of64() {
+        beginWithRevisionsOf20Bytes(64);
+        ask(false, Calls.TRIM, 0, 64);
+        ask(false, Calls.TRIM, 0, 65);
+        ask(true, Calls.TRIM, 0, 63);
+        ask(63, Calls.ABOUT, 0, 0);
+        ask(20, Calls.FETCH, 0, 63);
     }
 
     @Sentence("IllegalStateException if it is down")

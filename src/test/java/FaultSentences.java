@@ -63,7 +63,7 @@ final class FaultSentences extends Asking {
         ask(511, Calls.FREE);
         ask(4, Calls.REVISION, 0, 0, 0);
         ask(100, Calls.REVISION, 0, 0, 1);
-        writesLeftAre(1, 0, 0);
+        writesLeftAre(1, 0, 1);
     }
 
     @Sentence("false if no such piece is kept")
@@ -87,6 +87,14 @@ final class FaultSentences extends Asking {
         ask(NONE, Calls.VERIFY, 0);
         ask(true, Calls.DROP, 0);
         ask(false, Calls.DAMAGE, 0, 3, 0, 1);
+    }
+
+    @Sentence("false if no such piece is kept")
+    void promise14_noRevision64Of64() {
+        beginWithRevisionsOf20Bytes(64);
+        ask(true, Calls.DAMAGE, 0, 63, 20, 0);
+        ask(false, Calls.DAMAGE, 0, 64, 0, 1);
+        ask(false, Calls.DAMAGE, 0, 65, 0, 1);
     }
 
     @Sentence("or it has none such.")
@@ -151,11 +159,7 @@ final class FaultSentences extends Asking {
 
     @Sentence("The least revision of a document that can be asked for and can't be made again")
     void promise15_theLastOf64() {
-        ask(0, Calls.MAKE);
-        for (int r = 0; r < 64; r++) {
-            ask(true, Calls.FEED, r, r, r, r, r);
-            ask(r, Calls.COMMIT, 0, r);
-        }
+        beginWithRevisionsOf20Bytes(64);
         ask(NONE, Calls.VERIFY, 0);
         ask(true, Calls.DAMAGE, 0, 63, 20, 1);
         ask(63, Calls.VERIFY, 0);

@@ -7,17 +7,9 @@ final class KeptAndPowerSentences extends Asking {
         super(checks);
     }
 
-    private void beginWithRevisions(int n) {
-        beginWithDocument();
-        for (int r = 0; r < n; r++) {
-            ask(true, Calls.FEED, r, r, r, r, r);
-            ask(r, Calls.COMMIT, 0, 100 + r);
-        }
-    }
-
     @Sentence("WHAT IS KEPT. A document's revisions from its FIRST (0 at first) to its NEWEST can be asked for")
     void terms_fromTheFirstToTheNewestCanBeAskedFor() {
-        beginWithRevisions(10);
+        beginWithRevisionsOf20Bytes(10);
         ask(0, Calls.ABOUT, 0, 0);
         asksFrom(0, 9);
         ask(true, Calls.TRIM, 0, 4);
@@ -39,7 +31,7 @@ final class KeptAndPowerSentences extends Asking {
 
     @Sentence("the pieces of these are kept")
     void terms_piecesOfThoseThatCanBeAskedForAreKept() {
-        beginWithRevisions(8);
+        beginWithRevisionsOf20Bytes(8);
         ask(true, Calls.TRIM, 0, 5);
         for (int r = 5; r < 8; r++) {
             ask(21, Calls.REVISION, 0, r, 0);
@@ -50,7 +42,7 @@ final class KeptAndPowerSentences extends Asking {
 
     @Sentence("and of those from which they are made")
     void terms_piecesFromWhichTheyAreMadeAreKept() {
-        beginWithRevisions(8);
+        beginWithRevisionsOf20Bytes(8);
         ask(true, Calls.TRIM, 0, 7);
         // 7 is made from 6, that from 4, that from 0.
         for (int r : new int[] {0, 4, 6, 7}) {
@@ -64,7 +56,7 @@ final class KeptAndPowerSentences extends Asking {
 
     @Sentence("no others.")
     void terms_noOtherPiecesAreKept() {
-        beginWithRevisions(8);
+        beginWithRevisionsOf20Bytes(8);
         ask(true, Calls.TRIM, 0, 7);
         for (int r : new int[] {1, 2, 3, 5}) {
             ask(NO_SUCH, Calls.REVISION, 0, r, 0);
@@ -85,7 +77,7 @@ final class KeptAndPowerSentences extends Asking {
     @Sentence("no others.")
     void terms_keptAfterCuttingOffAtEachOf64() {
         for (int first = 0; first < 64; first++) {
-            beginWithRevisions(64);
+            beginWithRevisionsOf20Bytes(64);
             ask(true, Calls.TRIM, 0, first);
             for (int r = 0; r < 64; r++) {
                 ask(isNeeded(r, first) ? 21 : NO_SUCH, Calls.REVISION, 0, r, 0);
@@ -160,11 +152,11 @@ final class KeptAndPowerSentences extends Asking {
 
     @Sentence("POWER. Making a document, cutting off, dropping take one WRITE")
     void terms_cuttingOffTakesOneWrite() {
-        beginWithRevisions(8);
+        beginWithRevisionsOf20Bytes(8);
         ask(true, Calls.CUT, 1);
         ask(true, Calls.TRIM, 0, 7);
-        ask(DOWN, Calls.TRIM, 0, 7);
-        beginWithRevisions(8);
+        ask(DOWN, Calls.MAKE);
+        beginWithRevisionsOf20Bytes(8);
         ask(true, Calls.CUT, 2);
         ask(true, Calls.TRIM, 0, 1);
         ask(true, Calls.TRIM, 0, 7);
@@ -173,7 +165,7 @@ final class KeptAndPowerSentences extends Asking {
 
     @Sentence("POWER. Making a document, cutting off, dropping take one WRITE")
     void terms_droppingTakesOneWrite() {
-        beginWithRevisions(8);
+        beginWithRevisionsOf20Bytes(8);
         ask(1, Calls.MAKE);
         ask(2, Calls.MAKE);
         ask(true, Calls.CUT, 2);
@@ -190,7 +182,7 @@ final class KeptAndPowerSentences extends Asking {
             ask(true, Calls.CUT, given);
             ask(given < writes ? DOWN : 0, Calls.COMMIT, 0, 1);
             if (given >= writes) {
-                writesLeftAre(given - writes, 0, 0);
+                writesLeftAre(given - writes, 0, 1);
             }
         }
     }
@@ -215,7 +207,7 @@ final class KeptAndPowerSentences extends Asking {
         fill(rising(0, 256));
         ask(true, Calls.CUT, 2);
         ask(1, Calls.COMMIT, 0, 1);
-        ask(DOWN, Calls.TRIM, 0, 0);
+        ask(DOWN, Calls.MAKE);
     }
 
     private void beginWithTwoRevisions() {
@@ -236,9 +228,6 @@ final class KeptAndPowerSentences extends Asking {
             ask(true, Calls.CUT, 0);
             askWriting(DOWN, call);
         }
-        beginWithTwoRevisions();
-        ask(true, Calls.CUT, 0);
-        ask(DOWN, Calls.TRIM, 0, 0);
     }
 
     /** A commit of 258 bytes has ten writes; before each of them, the last too, power may go. */

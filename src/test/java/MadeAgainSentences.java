@@ -70,11 +70,7 @@ final class MadeAgainSentences extends Asking {
     @Sentence("that can't be, if a base or piece it needs is not kept")
     void terms_whatIsNeededIsKept() {
         for (int first = 0; first < 16; first++) {
-            beginWithDocument();
-            for (int r = 0; r < 16; r++) {
-                ask(true, Calls.FEED, r, r, r, r, r);
-                ask(r, Calls.COMMIT, 0, r);
-            }
+            beginWithRevisionsOf20Bytes(16);
             ask(true, Calls.TRIM, 0, first);
             for (int r = 0; r < 16; r++) {
                 ask(r < first ? NONE : 20, Calls.FETCH, 0, r);

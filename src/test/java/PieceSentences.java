@@ -79,6 +79,37 @@ final class PieceSentences extends Asking {
         textIs(7, 0, "seven");
     }
 
+    /** Each call that names a document, of the last one and of those beside 0 and 7. */
+    @Sentence("There are DOCUMENTS 0, 1, .. 7, in the order in which they are made")
+    void terms_document7ButNoneBelow0OrAbove7() {
+        for (int d = 0; d < 8; d++) {
+            ask(d, Calls.MAKE);
+        }
+        commitText(7, 0, "abcd");
+        commitText(7, 1, "abXcd");
+        for (int d : new int[] {-1, 8}) {
+            ask(NONE, Calls.COMMIT, d, 1);
+            ask(NONE, Calls.FETCH, d, 0);
+            ask(NO_SUCH, Calls.REVISION, d, 0, 0);
+            ask(NONE, Calls.PIECE_BYTE, d, 0, 0);
+            ask(false, Calls.DAMAGE, d, 0, 0, 1);
+            ask(NONE, Calls.VERIFY, d);
+            ask(NONE, Calls.COMMON, d, 0, 1, 0);
+            ask(false, Calls.TRIM, d, 0);
+            ask(false, Calls.DROP, d);
+        }
+        ask(101, Calls.REVISION, 7, 1, 1);
+        ask(8, Calls.PIECE_BYTE, 7, 0, 0);
+        ask(2, Calls.COMMON, 7, 0, 1, 1);
+        ask(true, Calls.DAMAGE, 7, 1, 1, 1);
+        ask(1, Calls.VERIFY, 7);
+        ask(true, Calls.TRIM, 7, 1);
+        ask(1, Calls.ABOUT, 7, 0);
+        ask(true, Calls.DROP, 7);
+        ask(NO_SUCH, Calls.ABOUT, 7, 0);
+        ask(0, Calls.ABOUT, 6, 0);
+    }
+
     @Sentence("each has REVISIONS 0, 1, .. 63")
     void terms_revisions0To63OfEachDocument() {
         ask(0, Calls.MAKE);
@@ -151,8 +182,21 @@ final class PieceSentences extends Asking {
         commitText(1, 0, "abcdabcdabcd");
         commitText(0, "abcdabcdabcd");
         pieceBegins(0, 13, 24, 'a', 'b', 'c', 'd', 'a', 'b', 'c', 'd', 'a', 'b', 'c', 'd');
+    }
+
+    /** Nor is it the text that was made last. */
+    @Sentence("that of revision 0 is the empty text.")
+    void terms_revision0HasNothingToCopyFrom() {
+        beginWithTexts("abc");
+        ask(1, Calls.MAKE);
+        commitText(1, 0, "another text");
         setPiece(0, 2, 'x', 3, 0);
-        ask(BAD, Calls.FETCH, 0, 0);
+        for (int k = 0; k < 3; k++) {
+            ask(12, Calls.FETCH, 1, 0);
+            ask(BAD, Calls.FETCH, 0, 0);
+        }
+        setPiece(0, 2, 'x', 2, 'y');
+        textIs(0, 0, "xy");
     }
 
     @Sentence("A PIECE is a row of commands that make a text, from the left on, out of its base")
@@ -250,14 +294,18 @@ final class PieceSentences extends Asking {
         pieceOn("abcdefgh", "efghabcd", 9, 4, 9, 0);
         pieceOn("abcdefgh", "efghi", 9, 4, 2, 'i');
         pieceOn("aaaa", "aaaaaaaaa", 9, 0, 9, 0, 2, 'a');
-        // What is behind the end of the base is no part of it, whatever stood there before.
-        beginWithDocument();
-        commitText(0, "abcd");
-        commitText(1, "abcdefgh");
-        commitText(2, "abcdefgh");
-        pieceIs(2, 9, 0, 8, 'e', 'f', 'g', 'h');
         pieceOn("abc", "abc", 6, 'a', 'b', 'c');
+    }
+
+    /** Where the base is held, there may be zeroes behind it, or the rest of a longer text. */
+    @Sentence("(within both)")
+    void terms_whatIsBehindTheBaseIsNoPartOfIt() {
         pieceOn("", "\0\0\0\0\0", 10, 0, 0, 0, 0, 0);
+        pieceOn("Xabcd", "abcd\0\0\0\0", 9, 1, 8, 0, 0, 0, 0);
+        beginWithTexts("Xabcd", "Xabcdefgh", "Xabcdefgh", "Xabcdefgh");
+        ask(9, Calls.FETCH, 0, 3);
+        commitText(4, "abcdefgh");
+        pieceIs(4, 9, 1, 8, 'e', 'f', 'g', 'h');
     }
 
     @Sentence("(within both)")
@@ -337,6 +385,13 @@ final class PieceSentences extends Asking {
         ask(1, Calls.PIECE_BYTE, 0, 1, 69);
         ask(251, Calls.PIECE_BYTE, 0, 1, 70);
         pieceOn(rising(0, 200), "\u00fa" + rising(150, 4) + "\u00fa", 2, 250, 9, 150, 1, 2, 250);
+        // 66 + 3 + 2 bytes, and the whole's 69 have a number of two bytes.
+        beginWithDocument();
+        commitText(0, rising(0, 200));
+        commitText(1, run(250, 64) + rising(150, 4) + "\u00fb");
+        pieceBegins(1, 71, 128, 1, 250);
+        ask(9, Calls.PIECE_BYTE, 0, 1, 66);
+        ask(2, Calls.PIECE_BYTE, 0, 1, 69);
     }
 
     @Sentence("If that has more bytes than one INSERT of the whole text, it is this.")

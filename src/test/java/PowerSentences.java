@@ -14,7 +14,7 @@ final class PowerSentences extends Asking {
         for (int writes : new int[] {0, 1, 2, 20}) {
             beginWithRevision();
             ask(true, Calls.CUT, writes);
-            writesLeftAre(writes, 0, 0);
+            writesLeftAre(writes, 0, 1);
         }
     }
 
@@ -22,9 +22,7 @@ final class PowerSentences extends Asking {
     void promise18_afterTheMostWrites() {
         beginWithRevision();
         ask(true, Calls.CUT, HIGHEST);
-        for (int k = 0; k < 100; k++) {
-            ask(true, Calls.TRIM, 0, 0);
-        }
+        write(63, 0, 1);
         ask(1, Calls.MAKE);
         ask(false, Calls.IS_DOWN);
         ask(true, Calls.CUT, HIGHEST - 1);
@@ -49,7 +47,7 @@ final class PowerSentences extends Asking {
         ask(511, Calls.FREE);
         ask(false, Calls.START);
         ask(false, Calls.IS_DOWN);
-        ask(DOWN, Calls.TRIM, 0, 0);
+        ask(DOWN, Calls.MAKE);
         ask(true, Calls.IS_DOWN);
     }
 
@@ -91,13 +89,13 @@ final class PowerSentences extends Asking {
         beginWithRevision();
         ask(true, Calls.CUT, 0);
         ask(true, Calls.CUT, 2);
-        ask(true, Calls.TRIM, 0, 0);
+        write(1, 0, 1);
         ask(true, Calls.CUT, 3);
-        writesLeftAre(3, 0, 0);
+        writesLeftAre(3, 0, 2);
         beginWithRevision();
         ask(true, Calls.CUT, 5);
         ask(true, Calls.CUT, 1);
-        writesLeftAre(1, 0, 0);
+        writesLeftAre(1, 0, 1);
     }
 
     @Sentence("false if writes is below 0.")
@@ -105,15 +103,14 @@ final class PowerSentences extends Asking {
         beginWithRevision();
         ask(false, Calls.CUT, -1);
         ask(false, Calls.CUT, LOWEST);
-        ask(true, Calls.TRIM, 0, 0);
-        ask(true, Calls.TRIM, 0, 0);
+        write(2, 0, 1);
         fill("buffer");
         ask(true, Calls.CUT, 2);
         ask(false, Calls.CUT, -1);
         ask(false, Calls.CUT, -3);
         ask(false, Calls.CUT, LOWEST);
         bufferHas(6);
-        writesLeftAre(2, 0, 0);
+        writesLeftAre(2, 0, 3);
     }
 
     @Sentence("IllegalStateException if it is down.")
@@ -124,9 +121,7 @@ final class PowerSentences extends Asking {
         ask(DOWN, Calls.CUT, 5);
         ask(DOWN, Calls.CUT, -1);
         ask(true, Calls.START);
-        for (int k = 0; k < 10; k++) {
-            ask(true, Calls.TRIM, 0, 0);
-        }
+        write(10, 0, 1);
     }
 
     @Sentence("Power is on again")
@@ -150,11 +145,9 @@ final class PowerSentences extends Asking {
         // The commit would do two writes, so one of those told is left over.
         ask(DOWN, Calls.COMMIT, 0, 1);
         ask(true, Calls.START);
-        for (int k = 0; k < 50; k++) {
-            ask(true, Calls.TRIM, 0, 0);
-        }
+        write(50, 0, 1);
         ask(true, Calls.CUT, 0);
-        ask(DOWN, Calls.TRIM, 0, 0);
+        ask(DOWN, Calls.DROP, 0);
         ask(true, Calls.START);
         ask(1, Calls.MAKE);
     }
@@ -171,7 +164,7 @@ final class PowerSentences extends Asking {
         isAsBefore(before);
         bufferHas(6);
         // What cutAfter told holds on.
-        writesLeftAre(1, 0, 0);
+        writesLeftAre(1, 0, 1);
         ask(true, Calls.START);
         ask(false, Calls.START);
     }

@@ -73,6 +73,14 @@ final class TextSentences extends Asking {
         noneAndTheTextStays(1, 0);
     }
 
+    @Sentence("or the revision can't be asked for")
+    void promise06_noRevision64Of64() {
+        beginWithRevisionsOf20Bytes(64);
+        ask(20, Calls.FETCH, 0, 63);
+        ask(NONE, Calls.FETCH, 0, 64);
+        ask(NONE, Calls.FETCH, 0, 65);
+    }
+
     /** The first is made from 2, whose piece is kept; that one can't be asked for all the same. */
     @Sentence("or the revision can't be asked for")
     void promise06_keptButNotToBeAskedFor() {
@@ -321,6 +329,14 @@ final class TextSentences extends Asking {
         ask(3, Calls.COMMON, 0, 1, 3, 0);
         ask(1, Calls.MAKE);
         ask(NONE, Calls.COMMON, 1, 0, 0, 0);
+    }
+
+    @Sentence("NONE if one can't be asked for")
+    void promise16_noRevision64Of64() {
+        beginWithRevisionsOf20Bytes(64);
+        ask(3, Calls.COMMON, 0, 62, 63, 0);
+        ask(NONE, Calls.COMMON, 0, 63, 64, 0);
+        ask(NONE, Calls.COMMON, 0, 64, 63, 0);
     }
 
     @Sentence("for another which")

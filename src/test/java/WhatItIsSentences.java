@@ -23,11 +23,7 @@ final class WhatItIsSentences extends Asking {
 
     @Sentence("so chosen that any of them is made again in few steps")
     void whatItIs_anyIsMadeAgainInSixStepsAtMost() {
-        ask(0, Calls.MAKE);
-        for (int r = 0; r < 64; r++) {
-            ask(true, Calls.FEED, r, r, r, r, r);
-            ask(r, Calls.COMMIT, 0, r);
-        }
+        beginWithRevisionsOf20Bytes(64);
         for (int r = 0; r < 64; r++) {
             ask(20, Calls.FETCH, 0, r);
             ask(Integer.toBinaryString(r).replace("0", "").length(), Calls.STEPS);
@@ -78,22 +74,22 @@ final class WhatItIsSentences extends Asking {
         int next = 0;
         while (next < WRITING.length && left >= WRITES[next]) {
             left -= WRITES[next];
-            write(next, WRITTEN[next]);
+            askWriting(next, WRITTEN[next]);
             next++;
         }
         if (next < WRITING.length) {
-            write(next, DOWN);
+            askWriting(next, DOWN);
         }
         return next;
     }
 
     private void writeFrom(int next) {
         for (int k = next; k < WRITING.length; k++) {
-            write(k, WRITTEN[k]);
+            askWriting(k, WRITTEN[k]);
         }
     }
 
-    private void write(int k, Object want) {
+    private void askWriting(int k, Object want) {
         int[] call = WRITING[k];
         if (call[0] == Calls.COMMIT) {
             fill(run('a' + k, 62));
