@@ -67,6 +67,8 @@ public final class SentenceTest {
         if (words == null) {
             return;
         }
+        // What it is, the Terms, and twenty promises.
+        checks.due("sections of the document", words.notQuoted().size(), 22);
         for (Map.Entry<String, String> left : words.notQuoted().entrySet()) {
             checks.due("words of " + left.getKey() + " without a test", left.getValue(), "");
         }
