@@ -2,11 +2,14 @@ import java.lang.reflect.Constructor;
 import java.lang.reflect.Field;
 import java.lang.reflect.Method;
 import java.lang.reflect.Modifier;
+import java.nio.file.Files;
+import java.nio.file.Path;
 import java.util.Arrays;
 import java.util.TreeSet;
 
 /** The face is the document's, whole and with nothing beside it; no state is static. */
 public final class FaceTest {
+    private static final Path DOCUMENT = Path.of("../shared/DOC.md");
     private static final String[] DUE = {
         "public boolean feed(int, int, int, int, int) IllegalStateException",
         "public boolean end(int) IllegalStateException",
@@ -35,7 +38,7 @@ public final class FaceTest {
     private FaceTest() {
     }
 
-    public static void main(String[] args) {
+    public static void main(String[] args) throws Exception {
         Checks checks = new Checks();
         TreeSet<String> got = new TreeSet<>();
         TreeSet<String> names = new TreeSet<>();
@@ -54,13 +57,33 @@ public final class FaceTest {
             }
         }
         checks.due("the face", got, new TreeSet<>(Arrays.asList(DUE)));
+        if (Files.isReadable(DOCUMENT)) {
+            checks.due("the face", got, ofDocument(Files.readString(DOCUMENT)));
+        }
         checks.due("public and final", Modifier.toString(TextKeeper.class.getModifiers()), "public final");
         checkInside(checks, TextKeeper.class, names);
         for (Class<?> c : TextKeeper.class.getDeclaredClasses()) {
-            checks.due(c + " is static", Modifier.isStatic(c.getModifiers()), true);
+            int m = c.getModifiers();
+            checks.due(c + " is static", Modifier.isStatic(m), true);
+            checks.due(c + " is inside alone", Modifier.isPublic(m) || Modifier.isProtected(m), false);
             checkInside(checks, c, names);
         }
         checks.finish("FaceTest");
+    }
+
+    /** The members in the document's face, told as those of the class are. */
+    private static TreeSet<String> ofDocument(String document) {
+        TreeSet<String> face = new TreeSet<>();
+        for (String line : document.split("\n")) {
+            if (line.startsWith("    public ")) {
+                String[] headAndThrown = line.trim().replaceAll(" = .*|;", "").split(" throws ");
+                String head = headAndThrown[0].replaceAll("(int) [a-z]+(?=[,)])", "$1");
+                String[] thrown = headAndThrown.length > 1 ? headAndThrown[1].split(", ") : new String[0];
+                Arrays.sort(thrown);
+                face.add((head + " " + String.join(" ", thrown)).trim());
+            }
+        }
+        return face;
     }
 
     private static void checkInside(Checks checks, Class<?> c, TreeSet<String> names) {

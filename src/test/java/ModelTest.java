@@ -6,6 +6,8 @@ import java.util.TreeSet;
 public final class ModelTest {
     private static final int RUNS = 400;
     private static final int CALLS = 512;
+    private static final int[] WILD = {Integer.MIN_VALUE, Integer.MIN_VALUE + 1, -65536, -257, -256, -65, -64,
+        -2, -1, 0, 1, 2, 7, 8, 63, 64, 128, 255, 256, 257, 511, 512, 65536, Integer.MAX_VALUE - 1, Integer.MAX_VALUE};
 
     private final Checks checks = new Checks();
     private final TreeMap<String, TreeSet<String>> seen = new TreeMap<>();
@@ -62,6 +64,8 @@ public final class ModelTest {
             tell(Calls.DROP, document);
         } else if (kind == 96) {
             tell(Calls.TRIM, document, revision(document));
+        } else if (kind >= 90) {
+            tellWild(document);
         } else {
             ask(document);
         }
@@ -88,6 +92,23 @@ public final class ModelTest {
             case 14: fillBuffer(); break;
             default: tell(Calls.FETCH, document, r); break;
         }
+    }
+
+    /** Any call with any arguments, the first now and then a document: none may throw by itself. */
+    private void tellWild(int document) {
+        int call = random.nextInt(Calls.NAMES.length);
+        // What changes much is seldom asked, so that there is something to ask the others of.
+        if ((call == Calls.MAKE || call == Calls.DROP || call == Calls.CUT) && random.nextInt(4) != 0) {
+            return;
+        }
+        int[] a = new int[Calls.ARGUMENTS[call]];
+        for (int i = 0; i < a.length; i++) {
+            a[i] = random.nextInt(4) == 0 ? random.nextInt() : WILD[random.nextInt(WILD.length)];
+        }
+        if (a.length > 1 && random.nextBoolean()) {
+            a[0] = document;
+        }
+        tell(call, a);
     }
 
     private int document() {
